@@ -1,0 +1,82 @@
+/** What the project's tests share: answers against those that are due, and small nets. */
+final class Due {
+    private static int looked = 0;
+    private static int wrong = 0;
+
+    private Due() {
+    }
+
+    static void due(String call, long got, long want) {
+        looked++;
+        if (got != want) {
+            wrong++;
+            System.out.println(call + " answered " + got + ", due is " + want);
+        }
+    }
+
+    static void dueAll(String call, long[] got, long... want) {
+        due(call + " length", got.length, want.length);
+        for (int i = 0; i < Math.min(got.length, want.length); i++) {
+            due(call + " [" + i + "]", got[i], want[i]);
+        }
+    }
+
+    static void end() {
+        System.out.println(looked + " answers, " + wrong + " not as due");
+        if (wrong != 0 || looked == 0) {
+            System.exit(1);
+        }
+    }
+
+    static int source(WeaveHall hall, long... feed) {
+        int number = hall.weaver(0, 0);
+        for (long v : feed) {
+            hall.feed(number, v);
+        }
+        return number;
+    }
+
+    static int collect(WeaveHall hall) {
+        return hall.weaver(9, 0);
+    }
+
+    /** A SCRIPT of STEPS that are told as step, a, b, step, a, b, .. */
+    static int script(WeaveHall hall, int... steps) {
+        int number = hall.weaver(13, 0);
+        for (int i = 0; i + 2 < steps.length; i += 3) {
+            hall.step(number, steps[i], steps[i + 1], steps[i + 2]);
+        }
+        return number;
+    }
+
+    /** Does single ACTS until no WEAVER can go on: how many. */
+    static int untilStill(WeaveHall hall, int way) {
+        for (int acts = 0; acts < 1000; acts++) {
+            boolean still = hall.count(5) == 1;
+            for (int i = 0; i < hall.count(0); i++) {
+                still = still && hall.told(i, 1) != 0;
+            }
+            if (still) {
+                return acts;
+            }
+            hall.run(way, 1, 0);
+        }
+        return -1;
+    }
+
+    static long[] cloth(WeaveHall hall, int collect) {
+        long[] all = new long[hall.told(collect, 5)];
+        for (int i = 0; i < all.length; i++) {
+            all[i] = hall.woven(collect, i);
+        }
+        return all;
+    }
+
+    static long[] past(WeaveHall hall, int band) {
+        long[] all = new long[hall.bandTold(band, 3)];
+        for (int i = 0; i < all.length; i++) {
+            all[i] = hall.history(band, i);
+        }
+        return all;
+    }
+}
