@@ -2,11 +2,13 @@ import java.lang.reflect.Constructor;
 import java.lang.reflect.Field;
 import java.lang.reflect.Method;
 import java.lang.reflect.Modifier;
+import java.nio.file.Files;
+import java.nio.file.Path;
 import java.util.Arrays;
 import java.util.Set;
 import java.util.TreeSet;
 
-/** The public face of the document, and nothing beside it that can be seen from outside. */
+/** The public face of the document, nothing beside it, and the rules of LANGUAGE.md that are quickly seen. */
 public final class FaceTest {
     private static final String[] METHODS = {
         "int weaver(int, int)", "int feed(int, long)", "int step(int, int, int, int)",
@@ -15,7 +17,7 @@ public final class FaceTest {
         "long history(int, int)", "long digest(int)", "int widened(int)", "int failure(int, int)",
         "int balance(int)", "int count(int)"};
 
-    public static void main(String[] args) {
+    public static void main(String[] args) throws Exception {
         Class<?> face = WeaveHall.class;
         Due.due("public and final", face.getModifiers() & (Modifier.PUBLIC | Modifier.FINAL),
             Modifier.PUBLIC | Modifier.FINAL);
@@ -54,7 +56,30 @@ public final class FaceTest {
             Due.due(inside + " bears no name of the face", privateOnesNamed(inside, names), 0);
             Due.due(inside + " has few fields", inside.getDeclaredFields().length <= 20 ? 1 : 0, 1);
         }
+        source(Files.readString(Path.of("src/main/java/WeaveHall.java")));
         Due.end();
+    }
+
+    /** Words that LANGUAGE.md leaves out, and imports beside those that it lists. */
+    private static void source(String text) {
+        String code = text.replaceAll("(?s)/\\*.*?\\*/", " ").replaceAll("//.*", " ");
+        String words = "throw|throws|try|catch|finally|synchronized|assert|package|protected|native|volatile"
+            + "|double|float|System\\.(?!arraycopy)\\w+|\\w+Exact|hashCode|toString";
+        for (String part : code.split("\\s*[;{}]\\s*")) {
+            boolean bad = part.matches("(?s).*\\b(" + words + ")\\b.*") || part.contains("->") || part.contains("::")
+                || part.startsWith("import") && !part.matches("import java\\.util\\.(Arrays|ArrayList|List)");
+            if (bad) {
+                System.out.println("left out by LANGUAGE.md: " + part);
+            }
+            Due.due("a word of LANGUAGE.md", bad ? 1 : 0, 0);
+        }
+        int open = 0;
+        for (String line : text.split("\n")) {
+            open = line.matches("    (    )?\\}.*") ? 0 : open + 1;
+            boolean begins = line.matches("    (    )?(private|public|[a-z]).*\\) \\{");
+            open = begins ? 1 : open;
+            Due.due("a method's length at " + line, open > 65 && line.startsWith("            ") ? open : 0, 0);
+        }
     }
 
     private static int privateOnesNamed(Class<?> one, Set<String> names) {

@@ -1,3 +1,5 @@
+import java.util.Arrays;
+
 /** What each KIND does (Terms 1 and 2), seen by CLOTHS, HISTORIES, states and the number of ACTS. */
 public final class KindsTest {
     public static void main(String[] args) {
@@ -7,6 +9,7 @@ public final class KindsTest {
         sumAndSelect();
         copy();
         sort();
+        holdNothingBehindReset();
         tear();
         failures();
         writingToWhoIsOver();
@@ -53,20 +56,7 @@ public final class KindsTest {
         merged(new long[] {Long.MIN_VALUE}, new long[] {Long.MAX_VALUE}, Long.MIN_VALUE, Long.MAX_VALUE);
 
         // of like ones that of PORT 0: it is PORT 0 that it reads next
-        WeaveHall hall = new WeaveHall();
-        Due.source(hall, 6);
-        Due.source(hall, 6);
-        hall.weaver(4, 0);
-        Due.collect(hall);
-        hall.band(0, 0, 2, 0, 1);
-        hall.band(1, 0, 2, 1, 1);
-        hall.band(2, 0, 3, 0, 1);
-        // from the last one down: SOURCE 1, SOURCE 0, MERGE reads, SOURCE 1 ENDS, SOURCE 0 ENDS, MERGE reads, writes,
-        // COLLECT reads, MERGE reads that PORT 0 has ENDED, writes, COLLECT reads
-        Due.due("run", hall.run(1, 11, 0), 1);
-        Due.due("MERGE read", hall.told(2, 3), 2);
-        Due.due("MERGE wrote", hall.told(2, 4), 2);
-        Due.due("BAND 2", hall.bandTold(2, 3), 2);
+        merged(new long[] {6, 1}, new long[] {6, 9}, 6, 1, 6, 9);
     }
 
     private static void merged(long[] one, long[] other, long... want) {
@@ -162,6 +152,46 @@ public final class KindsTest {
             want[i] = i < 30 ? i - 29 : i < 60 ? i - 89 : i - 123;
         }
         through("SORT 30 of 64", 11, 30, many, want);
+
+        // it reads only once that the BAND ENDED, be something left to write or not
+        for (int length = 0; length < 5; length++) {
+            WeaveHall hall = new WeaveHall();
+            Due.source(hall, Arrays.copyOf(feed, length));
+            hall.weaver(11, 2);
+            Due.collect(hall);
+            hall.band(0, 0, 1, 0, 9);
+            hall.band(1, 0, 2, 0, 9);
+            Due.due("SORT run", hall.run(0, 2000, 0), 0);
+            Due.due("SORT ACTS", hall.count(2), (length + 1) + (2 * length + 2) + (length + 2));
+        }
+    }
+
+    /** Behind reset() nobody holds what it held, or knows that a BAND ENDED. */
+    private static void holdNothingBehindReset() {
+        for (int which = 0; which < 4; which++) {
+            boolean sorts = which > 1;
+            WeaveHall hall = new WeaveHall();
+            Due.source(hall, 7, 8, 9);
+            Due.source(hall, 3, 2, 1, 0);
+            hall.weaver(4, 0);
+            hall.weaver(sorts ? 11 : 1, sorts ? 5 : 0);
+            Due.collect(hall);
+            hall.band(0, 0, 2, which % 2, 1);
+            hall.band(1, 0, 2, 1 - which % 2, 1);
+            hall.band(2, 0, 3, 0, 1);
+            hall.band(3, 0, 4, 0, 1);
+            for (int acts = 1; acts < 50; acts++) {
+                hall.run(acts % 4, acts, acts);
+                hall.reset();
+                Due.due("run", hall.run(0, 2000, 0), 0);
+                if (sorts) {
+                    Due.dueAll("MERGE, SORT", Due.cloth(hall, 4), 0, 1, 2, 3, 7, 8, 9);
+                } else {
+                    Due.dueAll("MERGE", Due.cloth(hall, 4), 3, 2, 1, 0, 7, 8, 9);
+                }
+                hall.reset();
+            }
+        }
     }
 
     private static void tear() {

@@ -209,6 +209,28 @@ public final class NetTest {
         Due.due("no HISTORY", hall.bandTold(0, 3), 0);
         Due.due("DIGEST", hall.digest(0), 7);
         Due.due("PORT is free", hall.band(1, 0, 2, 0, 3), 1);
+        for (int i = 0; i < 3; i++) {
+            Due.due("nothing read", hall.told(i, 3), 0);
+            Due.due("nothing written", hall.told(i, 4), 0);
+            Due.due("not FAILED", hall.failure(i, 0), WeaveHall.BAD);
+        }
+        hall.clear();
+        // a TEAR that FAILED, then a SHIFT in its place
+        Due.source(hall, 1);
+        hall.weaver(12, 1);
+        Due.collect(hall);
+        hall.band(0, 0, 1, 0, 1);
+        hall.band(1, 0, 2, 0, 1);
+        hall.run(0, 2000, 0);
+        Due.due("FAILED", hall.failure(1, 0), 1);
+        hall.clear();
+        Due.source(hall);
+        hall.weaver(1, 0);
+        hall.band(0, 0, 1, 0, 1);
+        hall.band(1, 0, Due.collect(hall), 0, 1);
+        Due.due("not FAILED", hall.failure(1, 0), WeaveHall.BAD);
+        Due.due("BAND not FAILED", hall.bandTold(1, 4), 0);
+        Due.due("nothing read", hall.told(1, 3), 0);
     }
 
     private static void duringRun() {

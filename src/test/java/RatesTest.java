@@ -8,6 +8,7 @@ public final class RatesTest {
         firings();
         backwards();
         leastOfEachPart();
+        anyOrder();
         notBalanced();
         aboveAMillion();
         counts();
@@ -16,6 +17,11 @@ public final class RatesTest {
 
     private static WeaveHall chain(int... repeats) {
         WeaveHall hall = new WeaveHall();
+        joinChain(hall, repeats);
+        return hall;
+    }
+
+    private static void joinChain(WeaveHall hall, int... repeats) {
         Due.source(hall);
         for (int a : repeats) {
             hall.weaver(2, a);
@@ -24,7 +30,6 @@ public final class RatesTest {
         for (int i = 0; i <= repeats.length; i++) {
             hall.band(i, 0, i + 1, 0, 1);
         }
-        return hall;
     }
 
     private static void fixedOrNot() {
@@ -116,6 +121,49 @@ public final class RatesTest {
             Due.due("firings of " + i, hall.balance(i), want[i]);
         }
         Due.due("parts", hall.count(6), 2);
+
+        // SUM 0 of SOURCES by 4 and by 6 is one part, a chain the other: neither changes the other's numbers
+        hall = new WeaveHall();
+        hall.weaver(6, 0);
+        hall.weaver(2, 4);
+        hall.weaver(2, 6);
+        Due.source(hall);
+        Due.source(hall);
+        Due.collect(hall);
+        Due.source(hall);
+        hall.weaver(2, 5);
+        Due.collect(hall);
+        hall.band(1, 0, 0, 0, 1);
+        hall.band(2, 0, 0, 1, 1);
+        hall.band(3, 0, 1, 0, 1);
+        hall.band(4, 0, 2, 0, 1);
+        hall.band(0, 0, 5, 0, 1);
+        hall.band(6, 0, 7, 0, 1);
+        hall.band(7, 0, 8, 0, 1);
+        want = new int[] {12, 3, 2, 3, 2, 12, 1, 1, 5};
+        for (int i = 0; i < want.length; i++) {
+            Due.due("firings of " + i, hall.balance(i), want[i]);
+        }
+    }
+
+    /** BANDS made in either order, the SOURCE first or last: the numbers are the same. */
+    private static void anyOrder() {
+        for (int order = 0; order < 4; order++) {
+            WeaveHall hall = new WeaveHall();
+            boolean sourceFirst = order % 2 == 0;
+            for (int i = 0; i < 8; i++) {
+                int place = sourceFirst ? i : 7 - i;
+                hall.weaver(place == 0 ? 0 : place == 7 ? 9 : 2, 2);
+            }
+            for (int i = 0; i < 7; i++) {
+                int place = order < 2 ? i : 6 - i;
+                hall.band(sourceFirst ? place : 7 - place, 0, sourceFirst ? place + 1 : 6 - place, 0, 1);
+            }
+            for (int place = 0; place < 8; place++) {
+                Due.due("firings, order " + order, hall.balance(sourceFirst ? place : 7 - place),
+                    place == 0 ? 1 : 1 << (place - 1));
+            }
+        }
     }
 
     private static void notBalanced() {
@@ -139,6 +187,13 @@ public final class RatesTest {
         hall.weaver(2, 3);
         hall.band(1, 0, 1, 0, 1);
         Due.due("of the other part", hall.balance(0), WeaveHall.NONE);
+        // what could not be told once is told when the net has become another
+        hall.clear();
+        joinChain(hall, 3, 0, 2);
+        Due.due("REPEAT 0", hall.balance(0), WeaveHall.NONE);
+        hall.clear();
+        joinChain(hall, 3, 2);
+        Due.due("REPEAT 3, 2", hall.balance(3), 6);
     }
 
     private static void aboveAMillion() {
@@ -154,9 +209,11 @@ public final class RatesTest {
         Due.due("seen from the end", fromTheEnd(38, 20), WeaveHall.NONE);
         Due.due("seen from the end, 1000000", fromTheEnd(6, 10), 1000000);
         Due.due("seen from the end, 10000000", fromTheEnd(7, 10), WeaveHall.NONE);
-        Due.due("SOURCES of 16, 81, 625 and 49", sums(new int[] {16, 9, 5, 7}, new int[] {1, 1, 1, 1}), 5040);
+        Due.due("SUMS of 16, 9, 5 and 7", sums(new int[] {16, 9, 5, 7}, new int[] {1, 1, 1, 1}), 5040);
         Due.due("no least number that may be told", sums(new int[] {16, 9, 5, 7}, new int[] {11, 13, 17, 19}),
             WeaveHall.NONE);
+        Due.due("only the last one is above", thirds(20, 20, 20, 20, 5), WeaveHall.NONE);
+        Due.due("none is above", thirds(20, 20, 20, 10, 4), 960000);
         WeaveHall apart = chain(20, 20, 20, 20, 20);
         int repeat = apart.weaver(2, 1);
         apart.band(repeat, 0, repeat, 0, 1);
@@ -173,6 +230,25 @@ public final class RatesTest {
         }
         hall.band(Due.source(hall), 0, repeats, 0, 1);
         return hall.balance(0);
+    }
+
+    /** SUM 0 of a SOURCE and of one that REPEATS 3 times, then a chain of REPEATS: the COLLECT's firings. */
+    private static int thirds(int... repeats) {
+        WeaveHall hall = new WeaveHall();
+        hall.weaver(6, 0);
+        hall.weaver(2, 3);
+        hall.band(1, 0, 0, 1, 1);
+        hall.band(Due.source(hall), 0, 0, 0, 1);
+        hall.band(Due.source(hall), 0, 1, 0, 1);
+        int last = 0;
+        for (int a : repeats) {
+            int next = hall.weaver(2, a);
+            hall.band(last, 0, next, 0, 1);
+            last = next;
+        }
+        int collect = Due.collect(hall);
+        hall.band(last, 0, collect, 0, 1);
+        return hall.balance(collect);
     }
 
     /** SUMS of lines that REPEAT by two numbers each: the firings of the last SUM. */

@@ -11,6 +11,7 @@ public final class RunTest {
         wideningWithTheActBehind();
         wideningByX();
         tightestIsWidened();
+        leastWidthThenLeastNumber();
         widensToThousand();
         keptWidenings();
         fullOfActs();
@@ -268,6 +269,35 @@ public final class RunTest {
         Due.due("2", hall.widened(2), 0);
     }
 
+    /** Two SOURCES at a SELECT that WAITS for itself; SOURCE 0 writes to BAND 1, SOURCE 1 to BAND 0. */
+    private static void widenedInTurn(int width0, int width1, int... order) {
+        WeaveHall hall = new WeaveHall();
+        Due.source(hall, 1, 2, 3, 4, 5, 6, 7, 8, 9);
+        Due.source(hall, 1, 2, 3, 4, 5, 6, 7, 8, 9);
+        hall.weaver(7, 0);
+        hall.band(1, 0, 2, 1, width0);
+        hall.band(0, 0, 2, 2, width1);
+        hall.band(2, 0, 2, 0, 1);
+        for (int way = 0; way < 4; way++) {
+            Due.due("WAYS: run", hall.run(way, 2000, 1), 0);
+            Due.due("WAYS: WIDENED", hall.count(3), order.length);
+            for (int i = 0; i < order.length; i++) {
+                Due.due(width0 + ", " + width1 + ": widened(" + i + ")", hall.widened(i), order[i]);
+            }
+            Due.due("SELECT WAITS", hall.told(2, 1), 1);
+            hall.reset();
+        }
+    }
+
+    private static void leastWidthThenLeastNumber() {
+        widenedInTurn(2, 2, 0, 1, 0, 1, 0, 1);
+        widenedInTurn(3, 2, 1, 0, 1, 0, 1);
+        widenedInTurn(2, 3, 0, 1, 0, 1, 0);
+        widenedInTurn(9, 8, 1);
+        widenedInTurn(8, 9, 0);
+        widenedInTurn(9, 9);
+    }
+
     /** A ring in which each PATTERN becomes two: it fills to 1000 and 1000. */
     private static void widensToThousand() {
         WeaveHall hall = new WeaveHall();
@@ -360,6 +390,11 @@ public final class RunTest {
         Due.due("BAD ahead of FULL", hall.run(0, 0, 0), WeaveHall.BAD);
         Due.due("still", hall.count(2), 41999);
         Due.due("reset", hall.reset(), 41999);
+        for (int i = 0; i < 20; i++) {
+            Due.due("2000 more", hall.run(0, 2000, 0), 1);
+        }
+        Due.due("FULL at 40000", hall.run(0, 1, 0), WeaveHall.FULL);
+        Due.due("reset", hall.reset(), 40000);
         Due.due("anew", hall.run(0, 1, 0), 1);
         Due.due("reset", hall.reset(), 1);
     }
