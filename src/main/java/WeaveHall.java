@@ -754,9 +754,10 @@ public final class WeaveHall {
             goTo(at + 1);
         }
 
-        /** Behind a TRY that is the last STEP there is none to pass over: it begins with STEP 0 again. */
+        /** STEP by STEP, since behind the last STEP the one to pass over is STEP 0. */
         void passOver() {
-            goTo(at + 2);
+            goOn();
+            goOn();
         }
     }
 

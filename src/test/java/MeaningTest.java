@@ -235,7 +235,7 @@ public final class MeaningTest {
                         break;
                     case 6:
                         if (ins[s[1]].empty()) {
-                            to = at + 2;
+                            to = (at + 2) % steps.length;
                         } else {
                             r[s[2]] = read(s[1]);
                         }

@@ -87,11 +87,50 @@ public final class ScriptTest {
         Due.due("ACTS", hall.count(2), 2000);
     }
 
-    /** A TRY that is the last STEP has none behind it to pass over: STEP 0 is next. */
+    /** Behind the last STEP comes STEP 0: that is the one which a TRY as last STEP passes over. */
     private static void tryAsLastStep() {
-        finish("TRY last", hall(row(5, 6), row(1), READ, 0, 0, WRITE, 0, 0, TRY, 1, 1), 3, row(5, 6), row());
+        finish("TRY last", hall(row(5, 6), row(1), WRITE, 1, 0, READ, 0, 0, TRY, 1, 1), 3, row(), row(0, 5));
+        finish("TRY last, again and again", hall(row(5, 6, 7), row(), WRITE, 1, 0, READ, 0, 0, WRITE, 0, 0, TRY, 1, 1),
+            3, row(5, 6, 7), row(0));
+        finish("a quiet STEP 0", hall(row(5, 6, 7), row(1), LET, 2, 1, READ, 0, 0, ADD, 3, 2, WRITE, 0, 3, LET, 2, 0,
+            TRY, 1, 1), 3, row(1, 2, 2), row());
+        int[] goFirst = {GO, 3, 0, READ, 0, 0, GO, 4, 0, FAIL, 0, 0, TRY, 1, 1};
+        finish("GO as STEP 0 is passed over", hall(row(5, 6), row(), goFirst), 3, row(), row());
+        finish("GO as STEP 0 is done", hall(row(5, 6), row(1), goFirst), 4, row(), row());
         finish("TRY last but one", hall(row(5, 6), row(), READ, 0, 0, WRITE, 0, 0, TRY, 1, 1, FAIL, 0, 0), 3,
             row(5, 6), row());
+        finish("TRY last but one reads", hall(row(5, 6), row(1), READ, 0, 0, WRITE, 0, 0, TRY, 1, 1, FAIL, 0, 0), 4,
+            row(5), row());
+        tryAsOnlyStep();
+        tryOfFailedAsLastStep();
+    }
+
+    /** The next STEP of a TRY that is alone is that TRY, and so is the one behind. */
+    private static void tryAsOnlyStep() {
+        WeaveHall hall = hall(row(5, 6), row(), TRY, 0, 0);
+        Due.due("TRY alone", hall.run(2, 2000, 0), 1);
+        Due.due("it can go on", hall.told(2, 1), 0);
+        Due.due("read", hall.told(2, 3), 2);
+        Due.due("wrote", hall.told(2, 4), 0);
+    }
+
+    private static void tryOfFailedAsLastStep() {
+        WeaveHall hall = new WeaveHall();
+        Due.source(hall, 1, 2, 3);
+        hall.weaver(12, 2);
+        Due.script(hall, WRITE, 1, 0, READ, 1, 1, TRY, 0, 0);
+        Due.source(hall, 7, 8, 9, 10);
+        Due.collect(hall);
+        Due.collect(hall);
+        hall.band(0, 0, 1, 0, 1);
+        hall.band(1, 0, 2, 0, 1);
+        hall.band(3, 0, 2, 1, 1);
+        hall.band(2, 0, 4, 0, 1);
+        hall.band(2, 1, 5, 0, 1);
+        Due.due("run", hall.run(1, 2000, 0), 0);
+        Due.due("ENDED", hall.told(2, 1), 3);
+        Due.due("read", hall.told(2, 3), 6);
+        Due.dueAll("CLOTH", Due.cloth(hall, 5), 0, 1, 2);
     }
 
     private static void tryOfFailed() {
