@@ -1,7 +1,14 @@
-/** What the project's tests share: answers against those that are due, and small nets. */
+import java.lang.reflect.InvocationTargetException;
+import java.lang.reflect.Method;
+import java.lang.reflect.Modifier;
+import java.util.Arrays;
+import java.util.Comparator;
+
+/** What the project's tests share: answers against those that are due, cases by name, and parts of nets. */
 final class Due {
     private static int looked = 0;
     private static int wrong = 0;
+    private static String nameOfCase = "";
 
     private Due() {
     }
@@ -10,7 +17,7 @@ final class Due {
         looked++;
         if (got != want) {
             wrong++;
-            System.out.println(call + " answered " + got + ", due is " + want);
+            System.out.println(nameOfCase + call + " answered " + got + ", due is " + want);
         }
     }
 
@@ -25,6 +32,36 @@ final class Due {
         System.out.println(looked + " answers, " + wrong + " not as due");
         if (wrong != 0 || looked == 0) {
             System.exit(1);
+        }
+    }
+
+    /** Does every case of a test: its static methods without parameters, each named after what it shows. */
+    static void cases(Class<?> test) {
+        Method[] all = test.getDeclaredMethods();
+        Arrays.sort(all, Comparator.comparing(Method::getName));
+        for (Method one : all) {
+            boolean isCase = Modifier.isStatic(one.getModifiers()) && one.getParameterCount() == 0
+                && one.getReturnType() == void.class && !one.isSynthetic();
+            if (isCase) {
+                doCase(test, one);
+            }
+        }
+        end();
+    }
+
+    private static void doCase(Class<?> test, Method one) {
+        nameOfCase = test.getSimpleName() + "." + one.getName() + ": ";
+        int before = looked;
+        try {
+            one.setAccessible(true);
+            one.invoke(null);
+        } catch (InvocationTargetException | IllegalAccessException thrown) {
+            wrong++;
+            System.out.println(nameOfCase + "threw " + thrown.getCause());
+        }
+        if (looked == before) {
+            wrong++;
+            System.out.println(nameOfCase + "looked at nothing");
         }
     }
 
