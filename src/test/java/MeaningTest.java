@@ -9,8 +9,6 @@ import java.util.Random;
  * agree with one another.
  */
 public final class MeaningTest {
-    private static final int[] INS = {0, 1, 1, 1, 2, 1, 2, 3, 1, 1, 1, 1, 1, 2};
-    private static final int[] OUTS = {1, 1, 1, 1, 1, 2, 1, 1, 2, 0, 1, 1, 1, 2};
     private static final int TOO_LONG = 20000;
     private static int finished = 0;
 
@@ -282,7 +280,7 @@ public final class MeaningTest {
         int wanted = 3 + random.nextInt(9);
         while (workers.size() < wanted) {
             int kind = random.nextInt(3) == 0 ? 0 : 1 + random.nextInt(13);
-            if (INS[kind] <= open.size()) {
+            if (Nets.INS[kind] <= open.size()) {
                 addWorker(hall, random, workers, kind, open, lines);
             }
         }
@@ -298,17 +296,17 @@ public final class MeaningTest {
         w.kind = kind;
         w.a = pickA(kind, random);
         w.number = hall.weaver(kind, w.a);
-        w.ins = new Line[INS[kind]];
-        w.inBands = new int[INS[kind]];
-        w.outs = new Line[OUTS[kind]];
-        w.outBands = new int[OUTS[kind]];
-        for (int port = 0; port < INS[kind]; port++) {
+        w.ins = new Line[Nets.INS[kind]];
+        w.inBands = new int[Nets.INS[kind]];
+        w.outs = new Line[Nets.OUTS[kind]];
+        w.outBands = new int[Nets.OUTS[kind]];
+        for (int port = 0; port < Nets.INS[kind]; port++) {
             int[] from = open.remove(random.nextInt(open.size()));
             w.inBands[port] = hall.band(from[0], from[1], w.number, port, 1 + random.nextInt(3));
             w.ins[port] = workers.get(from[0]).outs[from[1]];
             workers.get(from[0]).outBands[from[1]] = w.inBands[port];
         }
-        for (int port = 0; port < OUTS[kind]; port++) {
+        for (int port = 0; port < Nets.OUTS[kind]; port++) {
             w.outs[port] = new Line();
             open.add(new int[] {w.number, port});
         }
@@ -411,10 +409,10 @@ public final class MeaningTest {
             if (kind == 13) {
                 pickSteps(hall, number, random);
             }
-            for (int port = 0; port < OUTS[kind]; port++) {
+            for (int port = 0; port < Nets.OUTS[kind]; port++) {
                 outs.add(new int[] {number, port});
             }
-            for (int port = 0; port < INS[kind]; port++) {
+            for (int port = 0; port < Nets.INS[kind]; port++) {
                 ins.add(new int[] {number, port});
             }
         }

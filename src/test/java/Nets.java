@@ -38,15 +38,21 @@ final class Nets {
         return hall;
     }
 
+    /** BANDS from each WEAVER's PORT 0 to that of the one behind it. */
+    static WeaveHall inARow(WeaveHall hall, int width) {
+        for (int i = 0; i + 1 < hall.count(0); i++) {
+            hall.band(i, 0, i + 1, 0, width);
+        }
+        return hall;
+    }
+
     /** SOURCE 0, one of a KIND 1, COLLECT 2. */
     static WeaveHall line(int kind, int a, long... feed) {
         WeaveHall hall = new WeaveHall();
         Due.source(hall, feed);
         hall.weaver(kind, a);
         Due.collect(hall);
-        hall.band(0, 0, 1, 0, 50);
-        hall.band(1, 0, 2, 0, 50);
-        return hall;
+        return inARow(hall, 50);
     }
 
     /** SOURCE 0 to COLLECT 1. */
@@ -54,7 +60,31 @@ final class Nets {
         WeaveHall hall = new WeaveHall();
         Due.source(hall, feed);
         Due.collect(hall);
-        hall.band(0, 0, 1, 0, width);
+        return inARow(hall, width);
+    }
+
+    /** SCRIPT 2 between SOURCES 0 and 1 (which has nothing) and COLLECTS 3 and 4. */
+    static WeaveHall scripted(long[] feed, int... steps) {
+        WeaveHall hall = new WeaveHall();
+        Due.source(hall, feed);
+        Due.source(hall);
+        Due.script(hall, steps);
+        hall.band(0, 0, 2, 0, 1);
+        hall.band(1, 0, 2, 1, 1);
+        hall.band(2, 0, Due.collect(hall), 0, 1);
+        hall.band(2, 1, Due.collect(hall), 0, 1);
+        return hall;
+    }
+
+    /** Twenty rings in which each PATTERN becomes twenty: 40 BANDS of WIDTH 1. */
+    static WeaveHall rings() {
+        WeaveHall hall = new WeaveHall();
+        for (int i = 0; i < 20; i++) {
+            int delay = hall.weaver(3, 1);
+            int repeat = hall.weaver(2, 20);
+            hall.band(delay, 0, repeat, 0, 1);
+            hall.band(repeat, 0, delay, 0, 1);
+        }
         return hall;
     }
 

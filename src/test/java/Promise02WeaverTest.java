@@ -277,10 +277,7 @@ public final class Promise02WeaverTest {
         hall.weaver(2, repeat);
         hall.weaver(12, 1000);
         Due.collect(hall);
-        for (int i = 0; i < 3; i++) {
-            hall.band(i, 0, i + 1, 0, 50);
-        }
-        Due.due("FINISHED", Nets.toTheEnd(hall, 2), 0);
+        Due.due("FINISHED", Nets.toTheEnd(Nets.inARow(hall, 50), 2), 0);
         Due.due("what it does", hall.told(2, 1), doing);
         Due.due("read", hall.told(2, 3), read);
         Due.due("wrote", hall.told(2, 4), read);

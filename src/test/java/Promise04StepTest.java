@@ -144,22 +144,7 @@ public final class Promise04StepTest {
     private static WeaveHall readsAnd(int reads, int... last) {
         int[] steps = new int[3 * reads + last.length];
         System.arraycopy(last, 0, steps, 3 * reads, last.length);
-        return between(Nets.upFrom(1, 40), steps);
-    }
-
-    /** SCRIPT 2 between SOURCES 0 and 1 (none) and COLLECTS 3 and 4. */
-    private static WeaveHall between(long[] feed, int... steps) {
-        WeaveHall hall = new WeaveHall();
-        Due.source(hall, feed);
-        Due.source(hall);
-        Due.script(hall, steps);
-        Due.collect(hall);
-        Due.collect(hall);
-        hall.band(0, 0, 2, 0, 1);
-        hall.band(1, 0, 2, 1, 1);
-        hall.band(2, 0, 3, 0, 1);
-        hall.band(2, 1, 4, 0, 1);
-        return hall;
+        return Nets.scripted(Nets.upFrom(1, 40), steps);
     }
 
     static void the12thIsTheLast() {
@@ -247,77 +232,112 @@ public final class Promise04StepTest {
 
     /** STEP 11 of 12 is there, and writes; all between would FAIL. */
     static void goToStep11Of12() {
-        weaves(between(new long[] {7, 8}, READ, 0, 0, GO, 11, 0, FAIL, 0, 0, FAIL, 0, 0, FAIL, 0, 0, FAIL, 0, 0,
+        weaves(Nets.scripted(new long[] {7, 8}, READ, 0, 0, GO, 11, 0, FAIL, 0, 0, FAIL, 0, 0, FAIL, 0, 0, FAIL, 0, 0,
             FAIL, 0, 0, FAIL, 0, 0, FAIL, 0, 0, FAIL, 0, 0, FAIL, 0, 0, WRITE, 0, 0), 3, 7, 8);
     }
 
     static void goToStep11Of11IsStep0() {
-        weaves(between(new long[] {7, 8}, READ, 0, 0, WRITE, 0, 0, GO, 11, 0, FAIL, 0, 0, FAIL, 0, 0, FAIL, 0, 0,
+        weaves(Nets.scripted(new long[] {7, 8}, READ, 0, 0, WRITE, 0, 0, GO, 11, 0, FAIL, 0, 0, FAIL, 0, 0, FAIL, 0, 0,
             FAIL, 0, 0, FAIL, 0, 0, FAIL, 0, 0, FAIL, 0, 0, FAIL, 0, 0), 3, 7, 8);
     }
 
     static void goToTheStepBehindTheLastIsStep0() {
-        weaves(between(new long[] {7, 8}, READ, 0, 0, WRITE, 0, 0, GO, 4, 0, FAIL, 0, 0), 3, 7, 8);
+        weaves(Nets.scripted(new long[] {7, 8}, READ, 0, 0, WRITE, 0, 0, GO, 4, 0, FAIL, 0, 0), 3, 7, 8);
     }
 
     static void goToTheLastStepIsDone() {
-        weaves(between(new long[] {7, 8}, READ, 0, 0, WRITE, 0, 0, GO, 3, 0, FAIL, 0, 0), 4, 7);
+        weaves(Nets.scripted(new long[] {7, 8}, READ, 0, 0, WRITE, 0, 0, GO, 3, 0, FAIL, 0, 0), 4, 7);
     }
 
     static void goToItself() {
-        WeaveHall hall = between(new long[] {7}, READ, 0, 0, GO, 1, 0);
+        WeaveHall hall = Nets.scripted(new long[] {7}, READ, 0, 0, GO, 1, 0);
         weaves(hall, 4);
         Due.due("by 100 STEPS", hall.failure(2, 1), 3);
     }
 
     static void goBy0GoesOn() {
-        weaves(between(new long[] {7, 8}, READ, 0, 0, GO, 3, 1, WRITE, 0, 0, LET, 2, 0), 3, 7, 8);
+        weaves(Nets.scripted(new long[] {7, 8}, READ, 0, 0, GO, 3, 1, WRITE, 0, 0, LET, 2, 0), 3, 7, 8);
     }
 
     static void goByEveryOtherNumber() {
         for (long v : new long[] {Long.MIN_VALUE, -1, 1, 1L << 32, Long.MAX_VALUE}) {
-            weaves(between(new long[] {v}, READ, 0, 1, GO, 3, 1, WRITE, 0, 1, LET, 2, 0), 3);
+            weaves(Nets.scripted(new long[] {v}, READ, 0, 1, GO, 3, 1, WRITE, 0, 1, LET, 2, 0), 3);
         }
     }
 
     static void withoutStepsItEnds() {
-        WeaveHall hall = between(new long[] {7});
+        WeaveHall hall = Nets.scripted(new long[] {7});
         weaves(hall, 3);
         Due.due("read", hall.told(2, 3), 0);
     }
 
     static void registersAre0AtFirst() {
         for (int register = 0; register < 4; register++) {
-            weaves(between(new long[] {}, WRITE, 0, register, READ, 0, 0), 3, 0);
+            weaves(Nets.scripted(new long[] {}, WRITE, 0, register, READ, 0, 0), 3, 0);
         }
     }
 
     static void eachRegisterIsOnesOwn() {
-        weaves(between(new long[] {5, 6, 7, 8}, READ, 0, 0, READ, 0, 1, READ, 0, 2, READ, 0, 3, WRITE, 0, 3,
+        weaves(Nets.scripted(new long[] {5, 6, 7, 8}, READ, 0, 0, READ, 0, 1, READ, 0, 2, READ, 0, 3, WRITE, 0, 3,
             WRITE, 0, 2, WRITE, 0, 1, WRITE, 0, 0), 3, 8, 7, 6, 5);
     }
 
     static void letTheLeastAndTheGreatestNumber() {
-        weaves(between(new long[] {}, LET, 0, MIN, WRITE, 0, 0, LET, 0, MAX, WRITE, 0, 0, READ, 0, 0), 3, MIN, MAX);
+        weaves(Nets.scripted(new long[] {}, LET, 0, MIN, WRITE, 0, 0, LET, 0, MAX, WRITE, 0, 0, READ, 0, 0), 3,
+            MIN, MAX);
     }
 
     static void addGoesRoundAtBothEnds() {
-        weaves(between(new long[] {Long.MAX_VALUE, Long.MIN_VALUE}, READ, 0, 0, LET, 1, 1, ADD, 0, 1, WRITE, 0, 0,
+        weaves(Nets.scripted(new long[] {Long.MAX_VALUE, Long.MIN_VALUE}, READ, 0, 0, LET, 1, 1, ADD, 0, 1, WRITE, 0, 0,
             READ, 0, 0, LET, 1, -1, ADD, 0, 1, WRITE, 0, 0), 3, Long.MIN_VALUE, Long.MAX_VALUE);
     }
 
     static void addOfARegisterToItself() {
-        weaves(between(new long[] {3, Long.MIN_VALUE}, READ, 0, 2, ADD, 2, 2, WRITE, 0, 2), 3, 6, 0);
+        weaves(Nets.scripted(new long[] {3, Long.MIN_VALUE}, READ, 0, 2, ADD, 2, 2, WRITE, 0, 2), 3, 6, 0);
     }
 
     static void lessAtTheEndsOfTheLongs() {
         long[] all = {Long.MIN_VALUE, Long.MAX_VALUE, Long.MAX_VALUE, Long.MIN_VALUE, Long.MIN_VALUE, Long.MIN_VALUE,
             -1, 0, 0, -1, 0, 0};
-        weaves(between(all, READ, 0, 0, READ, 0, 1, LESS, 0, 1, WRITE, 0, 0), 3, 1, 0, 0, 1, 0, 0);
+        weaves(Nets.scripted(all, READ, 0, 0, READ, 0, 1, LESS, 0, 1, WRITE, 0, 0), 3, 1, 0, 0, 1, 0, 0);
     }
 
     static void lessOfARegisterWithItselfIs0() {
-        weaves(between(new long[] {5}, READ, 0, 3, LESS, 3, 3, WRITE, 0, 3), 3, 0);
+        weaves(Nets.scripted(new long[] {5}, READ, 0, 3, LESS, 3, 3, WRITE, 0, 3), 3, 0);
+    }
+
+    static void tryPassesTheNextStepOver() {
+        weaves(Nets.scripted(new long[] {7}, TRY, 1, 3, FAIL, 0, 0, READ, 0, 0, WRITE, 0, 0), 3, 7);
+    }
+
+    static void tryThatReadsPassesNothingOver() {
+        weaves(Nets.scripted(new long[] {7, 8}, TRY, 0, 3, WRITE, 0, 3, READ, 0, 0, WRITE, 0, 0, READ, 1, 0), 3, 7, 8);
+    }
+
+    /** PORT 1 has ENDED: behind the last STEP it is STEP 0 that is passed over. */
+    static void tryAsLastStepPassesStep0Over() {
+        weaves(Nets.scripted(new long[] {7, 8}, WRITE, 0, 0, READ, 0, 0, TRY, 1, 3), 3, 0);
+    }
+
+    static void tryAsLastStepButOneGoesOnWithStep0() {
+        weaves(Nets.scripted(new long[] {7, 8}, READ, 0, 0, WRITE, 0, 0, TRY, 1, 3, FAIL, 0, 0), 3, 7, 8);
+    }
+
+    /** Of 12 STEPS the last one is the TRY: STEP 0, which writes, is done but once. */
+    static void tryAsStep11PassesStep0Over() {
+        weaves(Nets.scripted(new long[] {7, 8}, WRITE, 0, 2, READ, 0, 0, LET, 2, 9, LET, 2, 9, LET, 2, 9, LET, 2, 9,
+            LET, 2, 9, LET, 2, 9, LET, 2, 9, LET, 2, 9, LET, 2, 9, TRY, 1, 1), 3, 0);
+    }
+
+    static void tryAloneComesToItselfAgain() {
+        WeaveHall hall = Nets.scripted(new long[] {7, 8}, TRY, 0, 0);
+        Due.due("it goes on", hall.run(0, 2000, 0), 1);
+        Due.due("what it does", hall.told(2, 1), 0);
+        Due.due("read", hall.told(2, 3), 2);
+    }
+
+    static void readThatEndedEndsWhereTryDoesNot() {
+        weaves(Nets.scripted(new long[] {7}, READ, 0, 0, WRITE, 0, 0), 3, 7);
     }
 
     /** LET, LET, rounds of ADD and GO, more LETS: 2 + 2 rounds + more quiet STEPS ahead of the last one. */
@@ -326,7 +346,7 @@ public final class Promise04StepTest {
         int[] some = new int[18 + 3 * more];
         System.arraycopy(steps, 0, some, 0, 12 + 3 * more);
         System.arraycopy(steps, 18, some, 12 + 3 * more, 6);
-        return between(new long[] {}, some);
+        return Nets.scripted(new long[] {}, some);
     }
 
     static void with99QuietStepsItGoesOn() {
@@ -359,7 +379,7 @@ public final class Promise04StepTest {
 
     /** To FAIL by 100 quiet STEPS is one ACT; both SOURCES END, both COLLECTS FAIL. */
     static void toFailBy100QuietStepsIsOneAct() {
-        WeaveHall hall = between(new long[] {}, LET, 0, 0);
+        WeaveHall hall = Nets.scripted(new long[] {}, LET, 0, 0);
         Due.due("FINISHED", hall.run(0, 2000, 0), 0);
         Due.due("ACTS", hall.count(2), 5);
     }

@@ -128,6 +128,41 @@ public final class Promise07ClearTest {
         hall.band(3, 0, 4, 0, 1);
     }
 
+    /** TEAR 1 has read, written and FAILED; the SHIFT in its place has not. */
+    static void whatComesInAPlaceHasDoneNothing() {
+        WeaveHall hall = Nets.line(12, 1, 7, 8);
+        hall.run(0, 2000, 0);
+        hall.clear();
+        for (int i = 0; i < 3; i++) {
+            hall.weaver(1, 0);
+            Due.due("can go on", hall.told(i, 1), 0);
+            Due.due("read", hall.told(i, 3), 0);
+            Due.due("written", hall.told(i, 4), 0);
+            Due.due("FEED, CLOTH", hall.told(i, 5), 0);
+            Due.due("where", hall.failure(i, 0), WeaveHall.BAD);
+            Due.due("why", hall.failure(i, 1), WeaveHall.BAD);
+        }
+        hall.band(0, 0, 1, 0, 3);
+        int[] want = {3, 0, 0, 0, 0, 0, 0, 1};
+        for (int what = 0; what < 8; what++) {
+            Due.due("bandTold(0, " + what + ")", hall.bandTold(0, what), want[what]);
+        }
+        Due.due("digest(0)", hall.digest(0), 7);
+        Due.due("history(0, 0)", hall.history(0, 0), 0);
+    }
+
+    /** A SOURCE that had a FEED, a COLLECT that had a CLOTH, a SCRIPT that had STEPS: anew, they have none. */
+    static void theSameKindInAPlaceHasNothingEither() {
+        WeaveHall hall = Nets.begun();
+        hall.run(0, 2000, 0);
+        hall.clear();
+        for (int kind : new int[] {0, 0, 13, 9, 9}) {
+            int number = hall.weaver(kind, 0);
+            Due.due("FEED, STEPS, CLOTH of KIND " + kind, hall.told(number, 5), 0);
+            Due.due("woven", hall.woven(number, 0), 0);
+        }
+    }
+
     static void numbersBeginAnew() {
         WeaveHall hall = Nets.small();
         hall.clear();

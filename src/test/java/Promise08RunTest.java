@@ -1,4 +1,4 @@
-/** Promise 8, run: the bounds of WAY and ACTS, NOT of a net that is not WHOLE, FULL from 40000 ACTS on, 0, 2 ahead of 1. */
+/** Promise 8, run: the bounds of WAY and ACTS, NOT of a net that is not WHOLE, FULL from 40000 ACTS on, its answers. */
 public final class Promise08RunTest {
     private static final int MIN = Integer.MIN_VALUE, MAX = Integer.MAX_VALUE;
 
@@ -318,6 +318,26 @@ public final class Promise08RunTest {
         Due.due("WAITS to read", hall.told(2, 1), 1);
         Due.due("WIDTH", hall.bandTold(1, 0), 1000);
         Due.due("on it", hall.bandTold(1, 1), 1000);
+    }
+
+    /** The same with the one that WAITS to write as WEAVER 0, and as the last one. */
+    static void itSticksIfTheFirstOrTheLastWaitsToWrite() {
+        for (int place = 0; place < 3; place += 2) {
+            WeaveHall hall = new WeaveHall();
+            for (int i = 0; i < 3; i++) {
+                hall.weaver(i == place ? 2 : i == 1 ? 6 : 0, 20);
+            }
+            int source = 2 - place;
+            for (int i = 0; i < 60; i++) {
+                hall.feed(source, i);
+            }
+            hall.band(source, 0, place, 0, 50);
+            hall.band(place, 0, 1, 1, 50);
+            hall.band(1, 0, 1, 0, 1);
+            Due.due("STICKS", Nets.toTheEnd(hall, 2), 2);
+            Due.due("WAITS to write", hall.told(place, 1), 2);
+            Due.due("ENDED", hall.told(source, 1), 3);
+        }
     }
 
     /** 33, 66, .. 528, 1000 and 50, 100, .. 800, 1000 by turns: BAND 0 is 1000, and yet BAND 1 of 800 is WIDENED. */

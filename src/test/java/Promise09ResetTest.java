@@ -126,6 +126,17 @@ public final class Promise09ResetTest {
         Due.due("WIDENED", hall.count(3), widened);
     }
 
+    /** SCRIPT 2 writes register 3 ahead of what it adds to it. */
+    static void registersAre0Again() {
+        WeaveHall hall = Nets.scripted(new long[] {5, 6}, 1, 0, 3, 0, 0, 1, 3, 3, 1);
+        for (int acts : new int[] {2000, 9, 12, 2000}) {
+            hall.run(0, acts, 0);
+            hall.reset();
+        }
+        Due.due("FINISHED", hall.run(0, 2000, 0), 0);
+        Due.dueAll("CLOTH", Due.cloth(hall, 3), 0, 5, 11);
+    }
+
     static void feedAndStepsStay() {
         WeaveHall hall = Nets.begun();
         hall.reset();

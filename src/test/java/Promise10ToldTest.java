@@ -194,27 +194,14 @@ public final class Promise10ToldTest {
     }
 
     static void whatATryFindsEndedIsNoPatternRead() {
-        WeaveHall hall = new WeaveHall();
-        Due.source(hall, 7);
-        Due.source(hall);
-        Due.script(hall, 6, 0, 0, 2, 0, 0, 6, 1, 0, 2, 0, 0);
-        Due.collect(hall);
-        Due.collect(hall);
-        hall.band(0, 0, 2, 0, 1);
-        hall.band(1, 0, 2, 1, 1);
-        hall.band(2, 0, 3, 0, 1);
-        hall.band(2, 1, 4, 0, 1);
+        WeaveHall hall = Nets.scripted(new long[] {7}, 6, 0, 0, 2, 0, 0, 6, 1, 0, 2, 0, 0);
         hall.run(0, 2000, 0);
         Due.due("read", hall.told(2, 3), 1);
     }
 
     static void whatIsWrittenToOneWhoIsOverCounts() {
-        WeaveHall hall = new WeaveHall();
-        Due.source(hall, 7, 8, 9);
-        hall.weaver(12, 0);
-        Due.collect(hall);
-        hall.band(0, 0, 1, 0, 1);
-        hall.band(1, 0, 2, 0, 1);
+        WeaveHall hall = Nets.line(12, 0, 7, 8, 9);
+        hall.width(0, 1);
         Due.due("FINISHED", hall.run(1, 2000, 0), 0);
         Due.due("written", hall.told(0, 4), 3);
     }

@@ -118,12 +118,8 @@ public final class Promise12BandToldTest {
 
     /** TEAR 1 has FAILED: on it is what was on it, the HISTORY goes on, nobody WAITS. */
     static void writtenToOneWhoIsOver() {
-        WeaveHall hall = new WeaveHall();
-        Due.source(hall, 7, 8, 9, 10);
-        hall.weaver(12, 0);
-        Due.collect(hall);
-        hall.band(0, 0, 1, 0, 1);
-        hall.band(1, 0, 2, 0, 1);
+        WeaveHall hall = Nets.line(12, 0, 7, 8, 9, 10);
+        hall.width(0, 1);
         hall.run(0, 2, 0);
         told(hall, 0, 1, 1, 1, 1, 0, 0, 0, 1);
         Due.due("can go on", hall.told(0, 1), 0);
@@ -135,12 +131,8 @@ public final class Promise12BandToldTest {
     }
 
     static void writtenToOneWhoIsOverFromTheStart() {
-        WeaveHall hall = new WeaveHall();
-        Due.source(hall, 7, 8);
-        hall.weaver(12, 0);
-        Due.collect(hall);
-        hall.band(0, 0, 1, 0, 1);
-        hall.band(1, 0, 2, 0, 1);
+        WeaveHall hall = Nets.line(12, 0, 7, 8);
+        hall.width(0, 1);
         Due.due("FINISHED", hall.run(1, 2000, 0), 0);
         told(hall, 0, 1, 0, 0, 2, 1, 0, 0, 1);
     }

@@ -88,6 +88,41 @@ public final class Promise15WidenedTest {
         Due.due("WIDENED", hall.count(3), 6);
     }
 
+    /** SOURCE 0 writes to the last BAND made, SOURCE 2 to the first one. */
+    private static WeaveHall againstTheOrder(int first, int second, int third) {
+        WeaveHall hall = new WeaveHall();
+        for (int i = 0; i < 3; i++) {
+            Due.source(hall, 1, 2, 3, 4, 5, 6, 7);
+        }
+        int[] widths = {first, second, third};
+        for (int i = 0; i < 3; i++) {
+            int sum = hall.weaver(6, 0);
+            hall.band(2 - i, 0, sum, 1, widths[i]);
+            hall.band(sum, 0, sum, 0, 1);
+        }
+        return hall;
+    }
+
+    private static void inOrder(WeaveHall hall, int... want) {
+        for (int way = 0; way < 4; way++) {
+            hall.reset();
+            Due.due("FINISHED", hall.run(way, 2000, way), 0);
+            for (int i = 0; i < want.length; i++) {
+                Due.due("widened(" + i + ")", hall.widened(i), want[i]);
+            }
+            Due.due("WIDENED", hall.count(3), want.length);
+        }
+    }
+
+    static void theNumbersOfBandsTellNotThoseOfWeavers() {
+        inOrder(againstTheOrder(4, 4, 4), 0, 2, 4);
+        inOrder(againstTheOrder(6, 5, 4), 4, 2, 0);
+        inOrder(againstTheOrder(4, 5, 6), 0, 2, 4);
+        inOrder(againstTheOrder(5, 4, 6), 2, 0, 4);
+        inOrder(againstTheOrder(6, 4, 4), 2, 4, 0);
+        inOrder(againstTheOrder(3, 6, 3), 0, 4, 0, 2, 4);
+    }
+
     /** BANDS 1, 3, .. to the SUMS themselves are narrow and empty: nobody WAITS to write to them. */
     static void onlyFullBandsAtWhichOneWaits() {
         WeaveHall hall = waiting(5, 6, 2);
@@ -124,9 +159,8 @@ public final class Promise15WidenedTest {
         Due.due("WIDENED", hall.count(3), 0);
     }
 
-    /** 20 BANDS from 1 on, five times each: 100, all of them kept. */
     static void hundredAreKept() {
-        WeaveHall hall = manyRings();
+        WeaveHall hall = Nets.rings();
         toWidenings(hall, 100);
         Due.due("widened(98)", hall.widened(98) >= 0 ? 1 : 0, 1);
         Due.due("widened(99)", hall.widened(99) >= 0 ? 1 : 0, 1);
@@ -134,14 +168,14 @@ public final class Promise15WidenedTest {
     }
 
     static void of99ThereIsNo100th() {
-        WeaveHall hall = manyRings();
+        WeaveHall hall = Nets.rings();
         toWidenings(hall, 99);
         Due.due("widened(98)", hall.widened(98) >= 0 ? 1 : 0, 1);
         Due.due("widened(99)", hall.widened(99), WeaveHall.BAD);
     }
 
     static void the101stIsCountedNotKept() {
-        WeaveHall hall = manyRings();
+        WeaveHall hall = Nets.rings();
         toWidenings(hall, 100);
         int[] first = new int[100];
         for (int i = 0; i < 100; i++) {
@@ -152,18 +186,6 @@ public final class Promise15WidenedTest {
         for (int i = 0; i < 100; i++) {
             Due.due("widened(" + i + ")", hall.widened(i), first[i]);
         }
-    }
-
-    /** Twenty rings that double: 40 BANDS of WIDTH 1. */
-    private static WeaveHall manyRings() {
-        WeaveHall hall = new WeaveHall();
-        for (int i = 0; i < 20; i++) {
-            int delay = hall.weaver(3, 1);
-            int repeat = hall.weaver(2, 20);
-            hall.band(delay, 0, repeat, 0, 1);
-            hall.band(repeat, 0, delay, 0, 1);
-        }
-        return hall;
     }
 
     /** Goes on, by ever fewer ACTS a call, until just so many were WIDENED. */

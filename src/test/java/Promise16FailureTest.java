@@ -1,6 +1,6 @@
 /** Promise 16, failure: where and why a WEAVER FAILED; BAD of one that did not. */
 public final class Promise16FailureTest {
-    private static final int READ = 0, WRITE = 1, LET = 2, TRY = 6, FAIL = 7;
+    private static final int READ = 0, WRITE = 1, LET = 2, GO = 5, TRY = 6, FAIL = 7;
 
     public static void main(String[] args) {
         Due.cases(Promise16FailureTest.class);
@@ -100,24 +100,9 @@ public final class Promise16FailureTest {
         failed(torn(), 2, 1, 1);
     }
 
-    /** SCRIPT 2 between SOURCES 0 (7), 1 and COLLECTS 3, 4. */
-    private static WeaveHall scripted(int... steps) {
-        WeaveHall hall = new WeaveHall();
-        Due.source(hall, 7);
-        Due.source(hall);
-        Due.script(hall, steps);
-        Due.collect(hall);
-        Due.collect(hall);
-        hall.band(0, 0, 2, 0, 1);
-        hall.band(1, 0, 2, 1, 1);
-        hall.band(2, 0, 3, 0, 1);
-        hall.band(2, 1, 4, 0, 1);
-        Due.due("FINISHED", hall.run(0, 2000, 0), 0);
-        return hall;
-    }
-
     static void aFailOfAScriptIs2() {
-        WeaveHall hall = scripted(READ, 0, 0, WRITE, 0, 0, FAIL, 0, 0);
+        WeaveHall hall = Nets.scripted(new long[] {7}, READ, 0, 0, WRITE, 0, 0, FAIL, 0, 0);
+        Due.due("FINISHED", hall.run(0, 2000, 0), 0);
         for (int i = 2; i < 5; i++) {
             failed(hall, i, 2, 2);
         }
@@ -125,7 +110,8 @@ public final class Promise16FailureTest {
     }
 
     static void hundredStepsAre3() {
-        WeaveHall hall = scripted(READ, 0, 0, WRITE, 0, 0, LET, 0, 1, 5, 2, 0);
+        WeaveHall hall = Nets.scripted(new long[] {7}, READ, 0, 0, WRITE, 0, 0, LET, 0, 1, GO, 2, 0);
+        Due.due("FINISHED", hall.run(0, 2000, 0), 0);
         for (int i = 2; i < 5; i++) {
             failed(hall, i, 2, 3);
         }
@@ -158,10 +144,7 @@ public final class Promise16FailureTest {
         for (int i = 2; i < 40; i++) {
             hall.weaver(i == 39 ? 9 : 1, 0);
         }
-        for (int i = 0; i < 39; i++) {
-            hall.band(i, 0, i + 1, 0, 1);
-        }
-        Due.due("FINISHED", hall.run(1, 2000, 0), 0);
+        Due.due("FINISHED", Nets.inARow(hall, 1).run(1, 2000, 0), 0);
         didNotFail(hall, 0);
         for (int i = 1; i < 40; i++) {
             failed(hall, i, 1, 1);
@@ -190,32 +173,28 @@ public final class Promise16FailureTest {
         }
     }
 
-    /** A TEAR that reads that its BAND FAILED has its FAILURE from there, not by itself. */
-    static void aTearMayFailByAnother() {
+    /** SOURCE 0 (7, 8), TEARS 1 (1) and 2, COLLECT 3. */
+    private static WeaveHall twoTears(int second) {
         WeaveHall hall = new WeaveHall();
         Due.source(hall, 7, 8);
         hall.weaver(12, 1);
-        hall.weaver(12, 2);
+        hall.weaver(12, second);
         Due.collect(hall);
-        hall.band(0, 0, 1, 0, 1);
-        hall.band(1, 0, 2, 0, 1);
-        hall.band(2, 0, 3, 0, 1);
-        Due.due("FINISHED", hall.run(0, 2000, 0), 0);
+        Due.due("FINISHED", Nets.inARow(hall, 1).run(0, 2000, 0), 0);
+        return hall;
+    }
+
+    /** A TEAR that reads that its BAND FAILED has its FAILURE from there, not by itself. */
+    static void aTearMayFailByAnother() {
+        WeaveHall hall = twoTears(2);
+        failed(hall, 1, 1, 1);
         failed(hall, 2, 1, 1);
         failed(hall, 3, 1, 1);
     }
 
     /** A TEAR that is to read with as many read FAILS by itself, though its BAND has FAILED. */
     static void aTearWithAsManyReadFailsByItself() {
-        WeaveHall hall = new WeaveHall();
-        Due.source(hall, 7, 8);
-        hall.weaver(12, 1);
-        hall.weaver(12, 1);
-        Due.collect(hall);
-        hall.band(0, 0, 1, 0, 1);
-        hall.band(1, 0, 2, 0, 1);
-        hall.band(2, 0, 3, 0, 1);
-        Due.due("FINISHED", hall.run(0, 2000, 0), 0);
+        WeaveHall hall = twoTears(1);
         failed(hall, 1, 1, 1);
         failed(hall, 2, 2, 1);
         failed(hall, 3, 2, 1);

@@ -2,7 +2,7 @@ import java.math.BigInteger;
 import java.util.Arrays;
 import java.util.Random;
 
-/** Promise 17, balance: the least firings of each part; NOT of a net that is not FIXED, NONE if not BALANCED or above 1000000. */
+/** Promise 17, balance: the least firings of each part; NOT if not FIXED, NONE if not BALANCED or above 1000000. */
 public final class Promise17BalanceTest {
     private static final int[] FIXED_INNER = {1, 2, 2, 2, 3, 6, 6, 8, 8, 10};
 
@@ -18,10 +18,7 @@ public final class Promise17BalanceTest {
             hall.weaver(2, a);
         }
         Due.collect(hall);
-        for (int i = 0; i <= repeats.length; i++) {
-            hall.band(i, 0, i + 1, 0, 1);
-        }
-        return hall;
+        return Nets.inARow(hall, 1);
     }
 
     private static void firings(WeaveHall hall, int... want) {
@@ -117,6 +114,7 @@ public final class Promise17BalanceTest {
     static void repeat1And20() {
         firings(chain(1), 1, 1, 1);
         firings(chain(20), 1, 1, 20);
+        firings(chain(3, 2, 5), 1, 1, 3, 6, 30);
     }
 
     private static WeaveHall toItself(int kind, int a) {
@@ -133,6 +131,20 @@ public final class Promise17BalanceTest {
         firings(toItself(2, 0), WeaveHall.NONE);
         firings(toItself(2, 2), WeaveHall.NONE);
         firings(toItself(2, 20), WeaveHall.NONE);
+    }
+
+    /** DELAY 0 and COPY 1 in a ring, COUNT 2 and COLLECT 3 behind it. */
+    static void aRingIsBalanced() {
+        WeaveHall hall = new WeaveHall();
+        hall.weaver(3, 1);
+        hall.weaver(8, 0);
+        hall.weaver(10, 0);
+        Due.collect(hall);
+        hall.band(0, 0, 1, 0, 1);
+        hall.band(1, 0, 0, 0, 1);
+        hall.band(1, 1, 2, 0, 1);
+        hall.band(2, 0, 3, 0, 1);
+        allAre(hall, 1);
     }
 
     static void aRingThatDoublesIsNotBalanced() {
@@ -198,6 +210,21 @@ public final class Promise17BalanceTest {
         firings(hall, 12, 3, 2, 3, 2, 12, 1, 1, 5);
     }
 
+    /** WEAVERS of two parts by turns: SOURCES 0 and 1, REPEATS 2 and 3, COLLECTS 4 and 5. */
+    static void partsMayComeByTurns() {
+        WeaveHall hall = new WeaveHall();
+        Due.source(hall);
+        Due.source(hall);
+        hall.weaver(2, 2);
+        hall.weaver(2, 3);
+        Due.collect(hall);
+        Due.collect(hall);
+        for (int i = 0; i < 4; i++) {
+            hall.band(i, 0, i + 2, 0, 1);
+        }
+        firings(hall, 1, 1, 1, 1, 2, 3);
+    }
+
     static void onePartThatIsNotBalancedMakesAllOfTheNetSo() {
         WeaveHall hall = chain(2);
         int repeat = hall.weaver(2, 2);
@@ -248,6 +275,56 @@ public final class Promise17BalanceTest {
         Due.due("the SOURCE of 3", hall.balance(1), 65536);
     }
 
+    /** SUM 0 fires 3 times for what comes once and what comes thrice; behind it REPEATS: only the last is above. */
+    static void onlyTheLastNumberIsAboveAMillion() {
+        allAre(thirdsAnd(20, 20, 20, 20, 5), WeaveHall.NONE);
+        WeaveHall hall = thirdsAnd(20, 20, 20, 10, 4);
+        Due.due("SUM", hall.balance(0), 3);
+        Due.due("COLLECT", hall.balance(hall.count(0) - 1), 960000);
+    }
+
+    private static WeaveHall thirdsAnd(int... repeats) {
+        WeaveHall hall = new WeaveHall();
+        hall.weaver(6, 0);
+        hall.weaver(2, 3);
+        hall.band(1, 0, 0, 1, 1);
+        hall.band(Due.source(hall), 0, 0, 0, 1);
+        hall.band(Due.source(hall), 0, 1, 0, 1);
+        int last = 0;
+        for (int a : repeats) {
+            int next = hall.weaver(2, a);
+            hall.band(last, 0, next, 0, 1);
+            last = next;
+        }
+        hall.band(last, 0, Due.collect(hall), 0, 1);
+        return hall;
+    }
+
+    /** SUMS of ways that bring 16, 9, 5 and 7: the last fires 5040 times; by 11, 13, 17, 19 more it is too often. */
+    static void theLeastNumberMayBeAboveAMillionThoughNoRateIs() {
+        Due.due("5040", sums(new int[] {16, 9, 5, 7}, new int[] {1, 1, 1, 1}), 5040);
+        Due.due("none", sums(new int[] {16, 9, 5, 7}, new int[] {11, 13, 17, 19}), WeaveHall.NONE);
+    }
+
+    private static int sums(int[] one, int[] two) {
+        WeaveHall hall = new WeaveHall();
+        int last = -1;
+        for (int i = 0; i < one.length; i++) {
+            int first = hall.weaver(2, one[i]);
+            int second = hall.weaver(2, two[i]);
+            hall.band(Due.source(hall), 0, first, 0, 1);
+            hall.band(first, 0, second, 0, 1);
+            int sum = i == 0 ? second : hall.weaver(6, 0);
+            if (i > 0) {
+                hall.band(last, 0, sum, 0, 1);
+                hall.band(second, 0, sum, 1, 1);
+            }
+            last = sum;
+        }
+        hall.band(last, 0, Due.collect(hall), 0, 1);
+        return hall.balance(last);
+    }
+
     private static WeaveHall manyAndThree(int... repeats) {
         WeaveHall hall = new WeaveHall();
         hall.weaver(6, 0);
@@ -270,6 +347,58 @@ public final class Promise17BalanceTest {
         int[] many = new int[38];
         Arrays.fill(many, 20);
         allAre(chain(many), WeaveHall.NONE);
+    }
+
+    /** Numbers that no long holds: whatever they would go round to, none is told. */
+    static void whatGoesBeyondTheLongsIsNone() {
+        for (int a = 2; a <= 20; a++) {
+            for (int length = 14; length <= 38; length++) {
+                int[] many = new int[length];
+                Arrays.fill(many, a);
+                boolean told = length * Math.log(a) < Math.log(1000000.5);
+                WeaveHall hall = chain(many);
+                Due.due("the first of " + a + ", " + length, hall.balance(0), told ? 1 : WeaveHall.NONE);
+                Due.due("seen from the end", fromTheEnd(length, a), told ? power(a, length) : WeaveHall.NONE);
+            }
+        }
+    }
+
+    private static int power(int a, int length) {
+        int product = 1;
+        for (int i = 0; i < length; i++) {
+            product *= a;
+        }
+        return product;
+    }
+
+    /** COLLECT 0, the REPEATS, the SOURCE as the last one: the COLLECT's firings. */
+    private static int fromTheEnd(int repeats, int a) {
+        WeaveHall hall = new WeaveHall();
+        Due.collect(hall);
+        for (int i = 0; i < repeats; i++) {
+            hall.weaver(2, a);
+            hall.band(i + 1, 0, i, 0, 1);
+        }
+        hall.band(Due.source(hall), 0, repeats, 0, 1);
+        return hall.balance(0);
+    }
+
+    static void aMillionSeenFromTheEnd() {
+        Due.due("1000000", fromTheEnd(6, 10), 1000000);
+        Due.due("10000000", fromTheEnd(7, 10), WeaveHall.NONE);
+    }
+
+    static void onceNoneItIsToldWhenTheNetIsAnother() {
+        WeaveHall hall = chain(0);
+        Due.due("not BALANCED", hall.balance(0), WeaveHall.NONE);
+        hall.clear();
+        Due.source(hall);
+        hall.weaver(2, 3);
+        Due.collect(hall);
+        hall.band(0, 0, 1, 0, 1);
+        Due.due("not WHOLE", hall.balance(0), WeaveHall.NOT);
+        hall.band(1, 0, 2, 0, 1);
+        firings(hall, 1, 1, 3);
     }
 
     static void fortyInARow() {

@@ -77,13 +77,7 @@ public final class Promise18CountTest {
     }
 
     static void widenedFrom0OnAndBeyond100() {
-        WeaveHall hall = new WeaveHall();
-        for (int i = 0; i < 20; i++) {
-            int delay = hall.weaver(3, 1);
-            int repeat = hall.weaver(2, 20);
-            hall.band(delay, 0, repeat, 0, 1);
-            hall.band(repeat, 0, delay, 0, 1);
-        }
+        WeaveHall hall = Nets.rings();
         Due.due("ahead of a RUN", hall.count(3), 0);
         hall.run(0, 1, 0);
         Due.due("none yet", hall.count(3), 0);

@@ -157,10 +157,7 @@ public final class TermsKindsTest {
         hall.weaver(12, 3);
         hall.weaver(11, 2);
         Due.collect(hall);
-        for (int i = 0; i < 3; i++) {
-            hall.band(i, 0, i + 1, 0, 1);
-        }
-        Due.due("FINISHED", hall.run(0, 2000, 0), 0);
+        Due.due("FINISHED", Nets.inARow(hall, 1).run(0, 2000, 0), 0);
         Due.dueAll("CLOTH", Due.cloth(hall, 3), 2, 3);
         Due.due("FAILED", hall.told(2, 1), 4);
     }
@@ -221,12 +218,8 @@ public final class TermsKindsTest {
 
     /** The SOURCE WAITS at a full BAND until its reader FAILS: then it goes on. */
     static void nobodyWaitsToWriteToOneWhoIsOver() {
-        WeaveHall hall = new WeaveHall();
-        Due.source(hall, 1, 2, 3);
-        hall.weaver(12, 0);
-        Due.collect(hall);
-        hall.band(0, 0, 1, 0, 1);
-        hall.band(1, 0, 2, 0, 1);
+        WeaveHall hall = Nets.line(12, 0, 1, 2, 3);
+        hall.width(0, 1);
         hall.run(0, 1, 0);
         Due.due("WAITS to write", hall.told(0, 1), 2);
         hall.run(1, 1, 0);
@@ -236,14 +229,7 @@ public final class TermsKindsTest {
 
     /** The same with a reader that ENDED: a SCRIPT that reads once, then that its PORT 1 has ENDED. */
     static void nobodyWaitsToWriteToOneWhoEnded() {
-        WeaveHall hall = new WeaveHall();
-        Due.source(hall, 1, 2, 3, 4);
-        Due.source(hall);
-        Due.script(hall, 0, 0, 0, 0, 1, 0);
-        hall.band(0, 0, 2, 0, 1);
-        hall.band(1, 0, 2, 1, 1);
-        hall.band(2, 0, Due.collect(hall), 0, 1);
-        hall.band(2, 1, Due.collect(hall), 0, 1);
+        WeaveHall hall = Nets.scripted(new long[] {1, 2, 3, 4}, 0, 0, 0, 0, 1, 0);
         Due.due("FINISHED", hall.run(0, 2000, 0), 0);
         Due.due("SCRIPT ENDED", hall.told(2, 1), 3);
         Due.due("SOURCE ENDED", hall.told(0, 1), 3);
