@@ -50,7 +50,10 @@ public final class FaceTest {
         Constructor<?>[] made = face.getDeclaredConstructors();
         Due.due("one constructor", made.length, 1);
         Due.due("public", made[0].getModifiers(), Modifier.PUBLIC);
+        Due.due("few classes", face.getDeclaredClasses().length < 12 ? 1 : 0, 1);
+        keepsToTheRules(face);
         for (Class<?> inside : face.getDeclaredClasses()) {
+            keepsToTheRules(inside);
             Due.due(inside + " is static", Modifier.isStatic(inside.getModifiers()) ? 1 : 0, 1);
             Due.due(inside + " is not public", inside.getModifiers() & (Modifier.PUBLIC | Modifier.PROTECTED), 0);
             Due.due(inside + " bears no name of the face", privateOnesNamed(inside, names), 0);
@@ -58,6 +61,18 @@ public final class FaceTest {
         }
         source(Files.readString(Path.of("src/main/java/WeaveHall.java")));
         Due.end();
+    }
+
+    /** Rules 2, 5 and 11: no class deeper inside, no static state, few parameters. */
+    private static void keepsToTheRules(Class<?> one) {
+        Due.due(one + " has none inside", one == WeaveHall.class ? 0 : one.getDeclaredClasses().length, 0);
+        for (Field f : one.getDeclaredFields()) {
+            boolean isState = Modifier.isStatic(f.getModifiers()) && !Modifier.isFinal(f.getModifiers());
+            Due.due(f + " is no static state", isState ? 1 : 0, 0);
+        }
+        for (Method m : one.getDeclaredMethods()) {
+            Due.due(m + " has few parameters", m.getParameterCount() <= 7 ? 1 : 0, 1);
+        }
     }
 
     /** Words that LANGUAGE.md leaves out, and imports beside those that it lists. */

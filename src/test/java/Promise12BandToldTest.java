@@ -130,6 +130,50 @@ public final class Promise12BandToldTest {
         Due.due("WIDENED", hall.count(3), 0);
     }
 
+    /** SUM 2 ENDS by its PORT 0; of the three for its PORT 1 the third is written behind that. */
+    static void whatIsOnItStaysWhenItsReaderEnds() {
+        WeaveHall hall = new WeaveHall();
+        Due.source(hall);
+        Due.source(hall, 5, 6, 7);
+        hall.weaver(6, 0);
+        hall.band(0, 0, 2, 0, 1);
+        hall.band(1, 0, 2, 1, 2);
+        hall.band(2, 0, Due.collect(hall), 0, 1);
+        Due.due("FINISHED", hall.run(2, 2000, 0), 0);
+        Due.due("SUM ENDED", hall.told(2, 1), 3);
+        told(hall, 1, 2, 2, 2, 3, 1, 0, 1, 2);
+    }
+
+    /** SUM 3 reads at its PORT 0 that TEAR 1 FAILED; of the three for its PORT 1 the third is written behind that. */
+    static void whatIsOnItStaysWhenItsReaderFailsByAnotherBand() {
+        WeaveHall hall = new WeaveHall();
+        Due.source(hall);
+        hall.weaver(12, 0);
+        Due.source(hall, 5, 6, 7);
+        hall.weaver(6, 0);
+        hall.band(0, 0, 1, 0, 1);
+        hall.band(1, 0, 3, 0, 1);
+        hall.band(2, 0, 3, 1, 2);
+        hall.band(3, 0, Due.collect(hall), 0, 1);
+        Due.due("FINISHED", hall.run(2, 2000, 0), 0);
+        Due.due("SUM FAILED", hall.told(3, 1), 4);
+        told(hall, 2, 2, 2, 2, 3, 1, 0, 2, 3);
+    }
+
+    /** SCRIPT 1 writes one to itself; then it reads that its PORT 0 has ENDED, or FAILS. */
+    static void aBandToItsOwnWeaverEndsAndFailsWithIt() {
+        for (int last : new int[] {0, 7}) {
+            WeaveHall hall = new WeaveHall();
+            Due.source(hall);
+            Due.script(hall, 1, 1, 0, last, 0, 0);
+            hall.band(0, 0, 1, 0, 1);
+            hall.band(1, 0, Due.collect(hall), 0, 1);
+            hall.band(1, 1, 1, 1, 2);
+            Due.due("FINISHED", hall.run(0, 2000, 0), 0);
+            told(hall, 2, 2, 1, 1, 1, last == 0 ? 1 : 2, 0, 1, 1);
+        }
+    }
+
     static void writtenToOneWhoIsOverFromTheStart() {
         WeaveHall hall = Nets.line(12, 0, 7, 8);
         hall.width(0, 1);
